@@ -223,7 +223,7 @@ public final class MirrorClerks {
             case 1:
                 return walks.stepsFrom(from);
             default:
-                return from == cell ? NONE : walks.firstWayFrom(from);
+                return walks.firstWayFrom(from);
         }
     }
 
@@ -360,45 +360,31 @@ public final class MirrorClerks {
 
     public long digest() {
         long h = 839;
-        h = withHouse(h);
-        h = withCrowd(h);
-        for (int place = 0; place < page.letters; place++) {
-            h = 31 * h + at(page.codes, place);
-        }
-        for (int what = 0; what <= 10; what++) {
-            h = 31 * h + count(what);
-        }
-        return h;
-    }
-
-    private long withHouse(long before) {
-        long h = before;
-        if (!home.stands) {
-            return h;
-        }
-        for (int place = 0; place < CELLS; place++) {
-            for (int what = 0; what <= 3; what++) {
-                h = 31 * h + cell(place, what);
+        if (home.stands) {
+            for (int place = 0; place < CELLS; place++) {
+                for (int what = 0; what <= 3; what++) {
+                    h = 31 * h + cell(place, what);
+                }
             }
+            h = 31 * h + post(0);
+            h = 31 * h + post(1);
         }
-        h = 31 * h + post(0);
-        return 31 * h + post(1);
-    }
-
-    private long withCrowd(long before) {
-        long h = before;
         for (int number = 0; number < scene.clerks; number++) {
             for (int what = 0; what <= 3; what++) {
                 h = 31 * h + clerkOf(number, what);
             }
         }
         for (int number = 0; number < scene.people; number++) {
-            for (int what = 0; what <= 1; what++) {
-                h = 31 * h + personOf(number, what);
-            }
-            for (int what = 0; what <= 1; what++) {
-                h = 31 * h + fits(number, what);
-            }
+            h = 31 * h + personOf(number, 0);
+            h = 31 * h + personOf(number, 1);
+            h = 31 * h + fits(number, 0);
+            h = 31 * h + fits(number, 1);
+        }
+        for (int place = 0; place < page.letters; place++) {
+            h = 31 * h + at(page.codes, place);
+        }
+        for (int what = 0; what <= 10; what++) {
+            h = 31 * h + count(what);
         }
         return h;
     }
@@ -746,24 +732,25 @@ public final class MirrorClerks {
         }
     }
 
-    /** WALKS to one FLOOR from all others. */
+    /** The WALKS to one FLOOR from all others. */
     private static final class Walk {
         /** More than the STEPS of any WALK, so that one price tells entries first, then STEPS. */
         private static final int ENTRY = 100;
         private static final int FAR = 1000000;
 
         private final int[] prices = new int[CELLS];
-        private House house;
-        private int seen;
+        private final int[] firstWays = new int[CELLS];
 
-        void reckon(House through, int seenFloors, int target) {
-            house = through;
-            seen = seenFloors;
+        void reckon(House house, int seen, int target) {
             fill(prices, FAR);
+            fill(firstWays, NONE);
             put(prices, target, 0);
+            // No WALK is longer than the CELLS; the last round finds the WAYS by prices that stand.
             for (int round = 0; round < CELLS; round++) {
                 for (int cell = 0; cell < CELLS; cell++) {
-                    improve(cell);
+                    if (cell != target) {
+                        choose(house, seen, cell);
+                    }
                 }
             }
         }
@@ -781,23 +768,20 @@ public final class MirrorClerks {
         }
 
         int firstWayFrom(int cell) {
+            return at(firstWays, cell);
+        }
+
+        private void choose(House house, int seen, int cell) {
+            int least = FAR;
             for (int way = 0; way < WAYS; way++) {
-                if (priceBy(cell, way) == at(prices, cell)) {
-                    return way;
+                int next = house.floorBeside(cell, way);
+                int price = next == NONE ? FAR : at(prices, next) + 1 + ENTRY * bit(seen, next);
+                if (price < least) {
+                    least = price;
+                    put(firstWays, cell, way);
                 }
             }
-            return NONE;
-        }
-
-        private void improve(int cell) {
-            for (int way = 0; way < WAYS; way++) {
-                put(prices, cell, Math.min(at(prices, cell), priceBy(cell, way)));
-            }
-        }
-
-        private int priceBy(int cell, int way) {
-            int next = house == null ? NONE : house.floorBeside(cell, way);
-            return next == NONE ? FAR : at(prices, next) + 1 + ENTRY * bit(seen, next);
+            put(prices, cell, least);
         }
     }
 
