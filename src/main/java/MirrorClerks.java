@@ -554,7 +554,7 @@ public final class MirrorClerks {
         }
 
         boolean isFloor(int cell) {
-            return signAt(cell) == FLOOR;
+            return has(cell) && at(signs, cell) == FLOOR;
         }
 
         int floors() {
