@@ -67,7 +67,8 @@ public final class FaceTest {
         for (Field field : MirrorClerks.class.getDeclaredFields()) {
             boolean isPublic = Modifier.isPublic(field.getModifiers());
             Check.isTrue(field + " is public or private", isPublic || Modifier.isPrivate(field.getModifiers()));
-            Check.isTrue(field + " is public if the document tells it", isPublic == constants.contains(field.getName()));
+            boolean isTold = constants.contains(field.getName());
+            Check.isTrue(field + " is public if the document tells it", isPublic == isTold);
         }
     }
 
