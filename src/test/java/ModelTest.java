@@ -1,4 +1,3 @@
-import java.util.Arrays;
 import java.util.Random;
 
 /** Runs of up to 512 calls by fixed seeds, each answer beside that of the slow model. */
@@ -79,37 +78,7 @@ public final class ModelTest {
 
     private void call(String name, int... a) {
         calls++;
-        Check.due("run " + run + ", call " + calls + ": " + name + Arrays.toString(a), asked(name, a),
+        Check.due("run " + run + ", call " + calls + ": " + Check.told(name, a), Check.ask(x, name, a),
             model.answer(name, a));
-    }
-
-    private long asked(String name, int[] a) {
-        switch (name) {
-            case "letter": return x.letter(a[0]);
-            case "blank": return x.blank();
-            case "fault": return x.fault();
-            case "house": return x.house();
-            case "cell": return x.cell(a[0], a[1]);
-            case "as": return x.as(a[0], a[1]);
-            case "dusk": return x.dusk(a[0] != 0);
-            case "clerk": return x.clerk(a[0], a[1]);
-            case "look": return x.look(a[0], a[1]);
-            case "clerkOf": return x.clerkOf(a[0], a[1]);
-            case "person": return x.person(a[0]);
-            case "personOf": return x.personOf(a[0], a[1]);
-            case "step": return x.step(a[0], a[1]);
-            case "walk": return x.walk(a[0], a[1], a[2]);
-            case "post": return x.post(a[0]);
-            case "tilt": return x.tilt(a[0], a[1]);
-            case "ledger": return x.ledger(a[0]);
-            case "forget": return x.forget();
-            case "fits": return x.fits(a[0], a[1]);
-            case "days": return x.days(a[0], a[1], a[2]);
-            case "image": return x.image();
-            case "restore": return x.restore();
-            case "count": return x.count(a[0]);
-            case "digest": return x.digest();
-            default: throw new IllegalArgumentException(name);
-        }
     }
 }
